@@ -9,6 +9,7 @@ public final class ReadingTest {
         promise14TheFirstOfSeveral();
         promise14Refused();
         promise15Doubt();
+        promise15DoubtAnew();
         promise15Refused();
         promise16Question();
         theDearest();
@@ -174,6 +175,44 @@ public final class ReadingTest {
         Due.is("doubt: QUARTER or REST", y.doubt(1), 30);
         y.kind(3, 0, 0, 2, 100);
         Due.is("doubt: none but a dear REST", y.doubt(1), 86);
+    }
+
+    /** What was worked for other KINDS and SIGNS is not left over. */
+    private static void promise15DoubtAnew() {
+        ScoreReader x = Boards.signs(1, 1);
+        x.set(1, 8);
+        x.kind(0, 1, 2000, 1, 0);
+        x.kind(1, 1, 2000, 1, 30);
+        Due.is("doubt(0) of two QUARTERS", x.doubt(0), 50);
+        x.kind(0, 1, 2000, 1, 90);
+        x.kind(3, 1, 2000, 1, 90);
+        Due.is("doubt anew: best()", x.best(), 80);
+        Due.is("doubt anew: doubt(0), HALF and BAR, or BAR and HALF", x.doubt(0), 0);
+        Due.is("doubt anew: doubt(1)", x.doubt(1), 0);
+        x.kind(5, 1, 2000, 1, 100);
+        Due.is("doubt anew: best() with DIRT", x.best(), 90);
+        x.correct(0, 5);
+        x.set(0, 29);
+        Due.is("doubt anew: best() behind a BAR", x.best(), 29);
+        Due.is("doubt anew: doubt(1), a HALF", x.doubt(1), 1);
+        x.correct(0, -1);
+        x.set(0, 35);
+        x.set(1, 16);
+        Due.is("doubt anew: two HALVES", x.best(), 60);
+        Due.is("doubt anew: doubt(0), WHOLE and DIRT, two DIRT", x.doubt(0), 10);
+        x.row(31, 1L << 50);
+        x.find();
+        x.set(1, 8);
+        Due.is("doubt anew: best() of three", x.best(), 100);
+        Due.is("doubt anew: doubt(2) of three", x.doubt(2), 0);
+        ScoreReader y = Boards.signs(1);
+        y.set(1, 4);
+        y.kind(0, 1, 2000, 1, 0);
+        y.kind(1, 1, 2000, 1, 10);
+        Due.is("doubt anew: doubt(0) of a QUARTER in 4", y.doubt(0), 50);
+        y.set(1, 8);
+        Due.is("doubt anew: doubt(0) of a HALF in 8", y.doubt(0), 40);
+        Due.is("doubt anew: question()", y.question(), 0);
     }
 
     private static void promise16Question() {

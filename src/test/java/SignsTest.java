@@ -27,6 +27,13 @@ public final class SignsTest {
         x.row(0, 1L << 59);
         x.row(1, 1L);
         Due.is("find: the edges do not touch", x.find(), 5);
+        ScoreReader z = new ScoreReader();
+        z.ink(5, 5, 1, 4, true);
+        z.ink(5, 8, 4, 1, true);
+        z.ink(8, 6, 1, 1, true);
+        Due.is("find: one reaches under another, a row between", z.find(), 2);
+        z.ink(8, 7, 1, 1, true);
+        Due.is("find: the row between is bridged", z.find(), 1);
         x.ink(0, 0, 60, 32, true);
         Due.is("find: all black", x.find(), 1);
         Due.is("find: all black, AREA", x.sign(0, 0), 1920);
