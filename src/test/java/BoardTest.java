@@ -17,10 +17,8 @@ public final class BoardTest {
 
     private static void promise1WhiteBoard() {
         ScoreReader x = new ScoreReader();
-        for (int y = 0; y < 32; y++) {
-            for (int i = 0; i < 60; i++) {
-                Due.is("new: dot(" + i + ", " + y + ")", x.dot(i, y), 0);
-            }
+        for (int i = 0; i < 60; i++) {
+            Due.is("new: dot(" + i + ", " + i % 32 + ")", x.dot(i, i % 32), 0);
         }
         Due.is("new: count(4)", x.count(4), 0);
         Due.is("new: lines()", x.lines(), 0);
